@@ -936,10 +936,14 @@ public final class KneeOaths {
     /** The tape, and the reading of it as a TEXT. */
     private static final class Reader {
         private final int[] tape = new int[MAX_BYTES];
+        private final int[] kinds = new int[MAX_BYTES + 1];
+        private final int[] places = new int[MAX_BYTES + 1];
+        private final int[] values = new int[MAX_BYTES + 1];
         private int length;
-        private int at;
+        private int tokenCount;
+        private int tokensRead;
         private int token;
-        private int tokenPlace;
+        private int place;
         private int value;
         private int law;
         private Script script;
@@ -986,7 +990,8 @@ public final class KneeOaths {
             script.clear();
             faultKind = 0;
             faultPlace = NONE;
-            at = 0;
+            cutTokens();
+            tokensRead = 0;
             step();
             boolean fine = true;
             for (int i = 0; i <= MAX_CLAUSES && fine && token != TOKEN_END; i++) {
@@ -998,12 +1003,12 @@ public final class KneeOaths {
 
         private boolean fail(int kind) {
             faultKind = kind;
-            faultPlace = tokenPlace;
+            faultPlace = place;
             return false;
         }
 
-        private int byteAt(int place) {
-            return place >= 0 && place < length ? tape[place] : NONE;
+        private int byteAt(int at) {
+            return at >= 0 && at < length ? tape[at] : NONE;
         }
 
         private static boolean isLetter(int sign) {
@@ -1014,52 +1019,60 @@ public final class KneeOaths {
             return sign >= '0' && sign <= '9';
         }
 
-        /** Comes to the next TOKEN. */
-        private void step() {
-            while (at < length && (byteAt(at) == 32 || byteAt(at) == 10)) {
-                at++;
+        private void cutTokens() {
+            tokenCount = 0;
+            int at = 0;
+            for (int i = 0; i < MAX_BYTES && at < length; i++) {
+                int sign = byteAt(at);
+                if (sign == 32 || sign == 10) {
+                    at++;
+                } else if (isLetter(sign)) {
+                    at = cutWord(at);
+                } else if (isDigit(sign)) {
+                    at = cutNumber(at);
+                } else {
+                    at = cutSign(at);
+                }
             }
-            tokenPlace = at;
-            int sign = byteAt(at);
-            if (sign == NONE) {
-                token = TOKEN_END;
-            } else if (isLetter(sign)) {
-                stepWord();
-            } else if (isDigit(sign)) {
-                stepNumber();
-            } else {
-                stepSign(sign);
+            addToken(TOKEN_END, length, 0);
+        }
+
+        private void addToken(int kind, int from, int number) {
+            if (tokenCount < kinds.length) {
+                kinds[tokenCount] = kind;
+                places[tokenCount] = from;
+                values[tokenCount] = number;
+                tokenCount++;
             }
         }
 
-        private void stepWord() {
-            while (at < length && isLetter(byteAt(at))) {
-                at++;
+        private int cutWord(int from) {
+            int to = from;
+            while (to < length && isLetter(byteAt(to))) {
+                to++;
             }
-            token = wordNumber();
+            addToken(wordNumber(from, to), from, 0);
+            return to;
         }
 
-        private int wordNumber() {
+        private int wordNumber(int from, int to) {
             int word = 0;
-            int from = 0;
+            int start = 0;
             for (int i = 0; i < WORDS.length(); i++) {
                 if (WORDS.charAt(i) == ' ') {
-                    if (isWord(from, i)) {
+                    if (i - start == to - from && isWord(start, i, from)) {
                         return word;
                     }
                     word++;
-                    from = i + 1;
+                    start = i + 1;
                 }
             }
             return TOKEN_UNKNOWN;
         }
 
-        private boolean isWord(int from, int to) {
-            if (to - from != at - tokenPlace) {
-                return false;
-            }
-            for (int i = from; i < to; i++) {
-                if (WORDS.charAt(i) != byteAt(tokenPlace + i - from)) {
+        private boolean isWord(int start, int stop, int from) {
+            for (int i = start; i < stop; i++) {
+                if (WORDS.charAt(i) != byteAt(from + i - start)) {
                     return false;
                 }
             }
@@ -1067,21 +1080,33 @@ public final class KneeOaths {
         }
 
         /** A value above 9999 is held just above it, so that no row of digits is too long. */
-        private void stepNumber() {
-            value = 0;
-            while (at < length && isDigit(byteAt(at))) {
-                value = Math.min(MAX_NUMBER + 1, value * 10 + byteAt(at) - '0');
-                at++;
+        private int cutNumber(int from) {
+            int to = from;
+            int number = 0;
+            while (to < length && isDigit(byteAt(to))) {
+                number = Math.min(MAX_NUMBER + 1, number * 10 + byteAt(to) - '0');
+                to++;
             }
-            token = TOKEN_NUMBER;
+            addToken(TOKEN_NUMBER, from, number);
+            return to;
         }
 
-        private void stepSign(int sign) {
-            at++;
-            token = SIGNS.indexOf((char) sign) >= 0 ? sign : TOKEN_UNKNOWN;
-            if ((sign == '<' || sign == '>') && byteAt(at) == '=') {
-                at++;
-                token = sign + WITH_EQUAL;
+        private int cutSign(int from) {
+            int sign = byteAt(from);
+            boolean withEqual = (sign == '<' || sign == '>') && byteAt(from + 1) == '=';
+            int kind = SIGNS.indexOf((char) sign) >= 0 ? sign : TOKEN_UNKNOWN;
+            addToken(withEqual ? sign + WITH_EQUAL : kind, from, 0);
+            return withEqual ? from + 2 : from + 1;
+        }
+
+        /** Comes to the next TOKEN; behind the end there is the end. */
+        private void step() {
+            int next = Math.min(tokensRead, tokenCount - 1);
+            if (next >= 0 && next < kinds.length) {
+                token = kinds[next];
+                place = places[next];
+                value = values[next];
+                tokensRead++;
             }
         }
 
@@ -1431,7 +1456,8 @@ public final class KneeOaths {
         /** What is beyond a million is a million, at each step. */
         private void push(long value) {
             if (height >= 0 && height < stack.length) {
-                stack[height] = (int) Math.max(-MAX_VALUE, Math.min(MAX_VALUE, value));
+                long atMost = value > MAX_VALUE ? MAX_VALUE : value;
+                stack[height] = (int) (atMost < -MAX_VALUE ? -MAX_VALUE : atMost);
                 height++;
             }
         }
@@ -1629,18 +1655,15 @@ public final class KneeOaths {
                 case WORD_RELEASE: return releaseOath(first);
                 case WORD_KNEEL: return kneelDown(first);
                 case WORD_SKATE: return slide(first, LEFT);
-                case WORD_DAY: return passUpTo(first);
+                case WORD_DAY:
+                    for (int i = 0; i < first; i++) {
+                        if (!passDay()) {
+                            return false;
+                        }
+                    }
+                    return true;
                 default: return true;
             }
-        }
-
-        private boolean passUpTo(int days) {
-            for (int i = 0; i < days; i++) {
-                if (!passDay()) {
-                    return false;
-                }
-            }
-            return true;
         }
 
         void beginYears(int seed) {
