@@ -218,6 +218,9 @@ final class PromiseTests {
         same(-1, k.fault(1));
         fault(1, 0, "x");
         fault(1, 0, "Day 1;");
+        for (String sign : new String[] {"A", "Z", "a", "z", "M", "m"}) fault(1, 0, "day" + sign + " 1;");
+        for (String sign : new String[] {"@", "[", "`", "{", "_"}) fault(1, 3, "day" + sign + " 1;");
+        for (String sign : new String[] {":", "!", "."}) fault(1, 5, "day 6" + sign + ";");
         fault(1, 0, "\t");
         fault(1, 0, "\0");
         fault(1, 1, " \u00e9");
@@ -268,6 +271,15 @@ final class PromiseTests {
         fault(1, 13, "wears if not ) then 1 else 2 end;");
         fault(1, 15, "wears if not 1 then 1 else 2 end;");
         fault(1, 16, "wears if 1=1 or or 2=2 then 1 else 2 end;");
+        fault(1, 17, "wears if 1=1 and and 2=2 then 1 else 2 end;");
+        fault(1, 16, "wears if 1=1 or then 1 else 2 end;");
+        fault(1, 17, "wears if 1=1 and then 1 else 2 end;");
+        fault(1, 11, "wears if 1=then 1 else 2 end;");
+        fault(1, 22, "wears if just(1=1,2=2,) then 1 else 2 end;");
+        fault(1, 13, "wears if not then 1 else 2 end;");
+        fault(1, 8, "wears 1*;");
+        fault(1, 8, "wears 1/;");
+        fault(1, 7, "wears -;");
     }
 
     void promise06FaultsOfNumbers() {
@@ -352,6 +364,20 @@ final class PromiseTests {
         row("no part of the image", new int[] {k.fault(0), k.fault(1)}, 1, 0);
     }
 
+    void promise06FaultyTextsLeaveNothing() {
+        String sum = "1+".repeat(140) + "1";
+        for (int i = 0; i < 3; i++) fault(1, 288, "wears " + sum + " 2;");
+        fault(2, 18, "wears 5;one 1 age 100;");
+        fault(1, 25, "aches 5;one 1 age 10;day ;");
+        same(0, tell("risk " + sum + "-2;"));
+        people(2);
+        k.swear(0, 1, 0, 9);
+        yes(k.by(0));
+        row("by the text that was read", new int[] {k.ofOath(0, 7), k.ofOath(0, 8), k.of(0, 4)}, 5, 0, 139);
+        same(-1, k.played(0));
+        same(2, k.about(0));
+    }
+
     void promise07ATextRules() {
         people(2);
         k.swear(0, 1, 0, 9);
@@ -425,7 +451,8 @@ final class PromiseTests {
         String[] so = {"1<2", "1<=1", "0<=1", "2>1", "2>=2", "3>=2", "1=1", "1#2", "not 1=2", "not not 1=1", "1=1 or 1=2",
             "1=2 or 1=1", "1=1 or 1=1", "1=1 and 2=2", "1=1 or 1=1 and 1=2", "1=2 and 1=1 or 1=1", "not 1=2 and 1=1",
             "just(1=1)", "just(1=2,1=1)", "just(1=2,2=1,3=1,4=1,5=1,1=1)", "just(1=1 or 2=2,1=2)",
-            "just(just(1=1,1=1),1=1)", "not 1=1 or not 1=2"};
+            "just(just(1=1,1=1),1=1)", "not 1=1 or not 1=2", "1=1 and just(1=1)", "1=1 and just(1=2,1=1)", "just(1<2)",
+            "just(1<=2)", "just(2>1)", "just(2>=1)", "just(1#2)", "just(not 1=2)", "just(1=1 and 2=2)", "just(1=1 or 2=2)"};
         for (String s : so) Suite.same(s, 1, lawOf("if " + s + " then 1 else 2 end"));
         String[] notSo = {"2<2", "3<2", "2<=1", "2>2", "1>2", "1>=2", "1=2", "1#1", "not 1=1", "1=2 or 2=1", "1=1 and 1=2",
             "1=2 and 1=1", "not 1=1 or 1=2", "not 1=2 and 1=2", "just(1=1,1=1)", "just(1=2)", "just(1=1,1=1,1=1)",
@@ -632,6 +659,18 @@ final class PromiseTests {
         k.undo();
         same(1, k.strike(192));
         same(1, k.strike(16 + 32));
+    }
+
+    void promise13NoOneIsInItTwice() {
+        people(3);
+        k.swear(0, 1, 1, 2);
+        k.swear(1, 0, 1, 3);
+        k.swear(0, 2, 1, 4);
+        k.swear(2, 0, 1, 5);
+        same(-1, k.strike(15));
+        same(2, k.strike(3));
+        same(4, k.strike(12));
+        row("sizes", new int[] {k.ofOath(0, 3), k.ofOath(1, 3), k.ofOath(2, 3), k.ofOath(3, 3)}, 0, 1, 0, 1);
     }
 
     void promise13SixInARing() {
@@ -1417,6 +1456,15 @@ final class PromiseTests {
         row("others", new int[] {k.inTime(-1), k.inTime(3), k.inTime(Integer.MAX_VALUE)}, -1, -1, -1);
     }
 
+    void promise33OneInTime() {
+        k.word(99, 99);
+        row("just in time", new int[] {k.inTime(0), k.inTime(1), k.inTime(2)}, 1, 1, 99);
+        k.word(99, 98);
+        row("the other can't be", new int[] {k.inTime(0), k.inTime(1), k.inTime(2)}, 1, 1, 99);
+        k.word(1, 1);
+        row("of two sets of one the lowest", new int[] {k.inTime(0), k.inTime(1), k.inTime(2)}, 1, 1, 99);
+    }
+
     void promise33AllEightInTime() {
         for (int i = 8; i >= 1; i--) k.word(10, 10 * i);
         row("all", new int[] {k.inTime(0), k.inTime(1), k.inTime(2)}, 8, 255, 80);
@@ -1459,6 +1507,22 @@ final class PromiseTests {
         k.swear(0, 1, 1, 1);
         for (int i = 0; i < 4; i++) k.skate(0, 1);
         same(0, k.ring());
+    }
+
+    void promise35OfLikeOnesTheLowest() {
+        people(4);
+        k.swear(2, 3, 1, 1);
+        k.swear(3, 2, 1, 1);
+        k.swear(0, 1, 1, 1);
+        k.swear(1, 0, 1, 1);
+        same(3, k.ring());
+        k.breaks(0);
+        same(12, k.ring());
+        k.swear(2, 0, 1, 1);
+        k.swear(1, 2, 1, 1);
+        same(12, k.ring());
+        k.breaks(3);
+        same(4 + 16 + 32, k.ring());
     }
 
     void promise35SixInARing() {
@@ -1568,6 +1632,7 @@ final class PromiseTests {
         row("late", new int[] {k.copy(0, 2, 101, false), k.copy(0, 2, 101, true)}, 60, -19);
         row("like ones", new int[] {k.copy(0, 2, 102, false), k.copy(0, 2, 102, true)}, 9, -18);
         row("in time", new int[] {k.copy(0, 99, 9999, false), k.copy(0, 99, 9999, true)}, 9, -891);
+        row("at no cost", new int[] {k.copy(0, 1, 0, false), k.copy(0, 1, 0, true)}, 60, -60);
         row("at no gain", new int[] {k.copy(0, 0, 9999, false), k.copy(0, 0, 9999, true)}, 0, 0);
         row("never", new int[] {k.copy(1, 99, 9999, false), k.copy(1, 99, 9999, true)}, 60, -5940);
         k.breaks(0);
@@ -1643,6 +1708,10 @@ final class PromiseTests {
         same(2, k.mostSworn());
         k.release(0);
         same(-1, k.mostSworn());
+        k.swear(0, 1, 0, 1);
+        same(0, k.mostSworn());
+        k.swear(1, 0, 0, 1);
+        same(0, k.mostSworn());
     }
 
     void promise44Faithful() {
@@ -1704,6 +1773,17 @@ final class PromiseTests {
         same(7, k.worstDay());
     }
 
+    void promise46TheWorstIsTheFirst() {
+        people(2);
+        k.swear(0, 1, 0, 1);
+        k.breaks(0);
+        rule("aches 50-day;");
+        k.day(3);
+        same(0, k.worstDay());
+        k.day(29);
+        same(2, k.worstDay());
+    }
+
     // ---- the image ----
 
     void promise47AnImageIsTaken() {
@@ -1754,6 +1834,56 @@ final class PromiseTests {
             row("steps too", new int[] {k.undo(), k.undo(), k.undo(), k.undo(), k.undo(), k.undo()}, 4, 3, 2, 1, 0, -1);
         }
         same(1, tell("wears 5;"));
+    }
+
+    void promise48WhatWasToldIsSoAgain() {
+        people(3);
+        k.swear(0, 1, 0, 9);
+        k.swear(0, 2, 0, 9);
+        k.swear(1, 2, 0, 9);
+        k.day(1);
+        k.felt(1, 9, 8);
+        k.clash(0, 1);
+        k.word(3, 3);
+        k.saw(1, 2);
+        k.worn(0, 5);
+        tell("wears 6;");
+        k.image();
+        int[] due = {k.breaches(1, 0), k.breaches(1, 1), k.leastReleased(), k.inTime(2), k.known(1), k.whose()};
+        row("told", due, 1, 1, 1, 3, 7, 0);
+        k.felt(-1, 0, 0);
+        k.clash(-1, 0);
+        k.word(-1, 0);
+        k.saw(-1, 0);
+        k.worn(-1, 0);
+        k.felt(1, 9, 0);
+        k.clash(1, 2);
+        k.word(2, 2);
+        k.saw(1, 0);
+        k.worn(0, 6);
+        row("told anew", new int[] {k.breaches(1, 0), k.breaches(1, 1), k.leastReleased(), k.inTime(2), k.known(1), k.whose()},
+            1, 0, 2, 2, 5, 1);
+        k.back();
+        row("as it was", new int[] {k.breaches(1, 0), k.breaches(1, 1), k.leastReleased(), k.inTime(2), k.known(1), k.whose()}, due);
+    }
+
+    void promise48PeopleAndTextsToldSinceAreGone() {
+        k.one(1, 11);
+        tell("wears 11;");
+        k.image();
+        k.one(2, 22);
+        tell("wears 22;");
+        k.back();
+        same(-1000, k.of(1, 0));
+        no(k.by(1));
+        same(-2, k.played(1));
+        same(1, k.one(3, 33));
+        same(1, tell("wears 33;"));
+        k.swear(0, 1, 0, 1);
+        yes(k.by(1));
+        row("the new ones", new int[] {k.of(1, 0), k.of(1, 1), k.ofOath(0, 7)}, 3, 33, 33);
+        yes(k.by(0));
+        same(11, k.ofOath(0, 7));
     }
 
     void promise48NoStepIsAddedAndTheImageStays() {
