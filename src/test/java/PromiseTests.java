@@ -5,7 +5,7 @@ import java.util.Set;
 import java.util.TreeSet;
 
 /** One test or more for each promise of ../shared/DOC.md; promise07... is of promise 7. */
-final class PromiseTests {
+final class PromiseTests extends KneeTest {
     public static void main(String[] args) throws Exception {
         Suite suite = new Suite("PromiseTests");
         Method[] methods = PromiseTests.class.getDeclaredMethods();
@@ -18,68 +18,6 @@ final class PromiseTests {
         }
         suite.run("each promise has a test", () -> Suite.same("promises", 49, tested.size()));
         suite.close();
-    }
-
-    private final KneeOaths k = new KneeOaths();
-
-    private static void same(int due, int got) {
-        Suite.same("answer", due, got);
-    }
-
-    private static void yes(boolean got) {
-        Suite.same("answer", true, got);
-    }
-
-    private static void no(boolean got) {
-        Suite.same("answer", false, got);
-    }
-
-    /** Answers for all numbers told, in a row. */
-    private static void row(String what, int[] got, int... due) {
-        Suite.same(what, Arrays.toString(due), Arrays.toString(got));
-    }
-
-    private int[] aboutAll() {
-        int[] all = new int[10];
-        for (int i = 0; i < 10; i++) all[i] = k.about(i);
-        return all;
-    }
-
-    private int[] oath(int number) {
-        int[] all = new int[9];
-        for (int i = 0; i < 9; i++) all[i] = k.ofOath(number, i);
-        return all;
-    }
-
-    private int[] entry(int number) {
-        return new int[] {k.book(number, 0), k.book(number, 1), k.book(number, 2)};
-    }
-
-    /** TOUGH 5, 5, 5 .. and AGE 20, 21, 22 .. */
-    private void people(int n) {
-        for (int i = 0; i < n; i++) k.one(5, 20 + i);
-    }
-
-    private int tell(String text) {
-        return Words.tell(k, text);
-    }
-
-    /** The text rules then. */
-    private void rule(String text) {
-        yes(k.by(tell(text)));
-    }
-
-    private void fault(int kind, int place, String text) {
-        int texts = k.about(1);
-        same(-1, tell(text));
-        same(texts, k.about(1));
-        row(text, new int[] {k.fault(0), k.fault(1)}, kind, place);
-    }
-
-    private void fine(String text) {
-        KneeOaths other = new KneeOaths();
-        same(0, Words.tell(other, text));
-        row(text, new int[] {other.fault(0), other.fault(1)}, 0, -1);
     }
 
     /** An object on DAY 2 at RAIN 1, with one oath of 0 on 1, on the right, worn by 30. */
@@ -109,7 +47,7 @@ final class PromiseTests {
     void promise01ANewObjectHasNobody() {
         same(-1, KneeOaths.NONE);
         row("about", aboutAll(), 0, 0, -1, 0, 0, 0, 0, 0, 0, 0);
-        row("is", new int[] {k.is(0), k.is(1), k.is(2), k.is(3)}, 0, 0, 137, 0);
+        row("is", all(k.is(0), k.is(1), k.is(2), k.is(3)), 0, 0, 137, 0);
         same(0, k.book(-1, 0));
         same(-1, k.undo());
         same(-1, k.fault(0));
@@ -123,7 +61,7 @@ final class PromiseTests {
         tell("day 1;");
         same(0, k.back());
         row("about", aboutAll(), 0, 0, -1, 0, 0, 0, 0, 0, 0, 0);
-        row("is", new int[] {k.is(0), k.is(1), k.is(2), k.is(3)}, 0, 0, 137, 0);
+        row("is", all(k.is(0), k.is(1), k.is(2), k.is(3)), 0, 0, 137, 0);
     }
 
     void promise02SixPeopleAreToldOneByOne() {
@@ -136,7 +74,7 @@ final class PromiseTests {
         same(-1, k.one(1, 1));
         same(6, k.about(0));
         same(0, k.about(3));
-        row("the first", new int[] {k.of(0, 0), k.of(0, 1), k.of(1, 0), k.of(1, 1)}, 0, 0, 9, 99);
+        row("the first", all(k.of(0, 0), k.of(0, 1), k.of(1, 0), k.of(1, 1)), 0, 0, 9, 99);
     }
 
     void promise03TwentyBytesComeBehindTheTape() {
@@ -153,10 +91,10 @@ final class PromiseTests {
     void promise03TheHighestByteOfTheFirstIsFirst() {
         same(20, k.feed(('d' << 24) | ('a' << 16) | ('y' << 8) | ' ', ('6' << 24) | ('1' << 16) | (';' << 8) | 0xff, -1, -1, -1));
         same(-1, k.text());
-        row("fault", new int[] {k.fault(0), k.fault(1)}, 2, 4);
+        row("fault", all(k.fault(0), k.fault(1)), 2, 4);
         same(20, k.feed(('d' << 24) | ('a' << 16) | ('y' << 8) | ' ', ('6' << 24) | ('0' << 16) | (';' << 8) | 0xff, -1, -1, -1));
         same(-1, k.text());
-        row("fault", new int[] {k.fault(0), k.fault(1)}, 1, 7);
+        row("fault", all(k.fault(0), k.fault(1)), 1, 7);
     }
 
     void promise04TheTapeIsCut() {
@@ -187,7 +125,7 @@ final class PromiseTests {
         same(3, tell("wears 1;"));
         same(-1, tell("day 61;"));
         same(7, k.about(9));
-        row("not read", new int[] {k.fault(0), k.fault(1)}, 0, -1);
+        row("not read", all(k.fault(0), k.fault(1)), 0, -1);
         same(4, k.about(1));
     }
 
@@ -356,12 +294,12 @@ final class PromiseTests {
     void promise06TheLatestTextIsTold() {
         fault(2, 4, "day 61;");
         same(0, tell("day 1;"));
-        row("without", new int[] {k.fault(0), k.fault(1)}, 0, -1);
+        row("without", all(k.fault(0), k.fault(1)), 0, -1);
         fault(1, 0, "?");
         k.feed(0, 0, 0, 0, 0);
-        row("not read yet", new int[] {k.fault(0), k.fault(1)}, 1, 0);
+        row("not read yet", all(k.fault(0), k.fault(1)), 1, 0);
         k.back();
-        row("no part of the image", new int[] {k.fault(0), k.fault(1)}, 1, 0);
+        row("no part of the image", all(k.fault(0), k.fault(1)), 1, 0);
     }
 
     void promise06FaultyTextsLeaveNothing() {
@@ -373,7 +311,7 @@ final class PromiseTests {
         people(2);
         k.swear(0, 1, 0, 9);
         yes(k.by(0));
-        row("by the text that was read", new int[] {k.ofOath(0, 7), k.ofOath(0, 8), k.of(0, 4)}, 5, 0, 139);
+        row("by the text that was read", all(k.ofOath(0, 7), k.ofOath(0, 8), k.of(0, 4)), 5, 0, 139);
         same(-1, k.played(0));
         same(2, k.about(0));
     }
@@ -479,12 +417,12 @@ final class PromiseTests {
         people(2);
         k.swear(0, 1, 0, 9);
         rule("wears 100;aches 100;risk 9999+1;");
-        row("most", new int[] {k.ofOath(0, 7), k.ofOath(0, 8), k.of(0, 4)}, 99, 99, 9999);
+        row("most", all(k.ofOath(0, 7), k.ofOath(0, 8), k.of(0, 4)), 99, 99, 9999);
         rule("wears -1;aches -1;risk -1;");
-        row("least", new int[] {k.ofOath(0, 7), k.ofOath(0, 8), k.of(0, 4)}, 0, 0, 0);
+        row("least", all(k.ofOath(0, 7), k.ofOath(0, 8), k.of(0, 4)), 0, 0, 0);
         rule("risk tough*1000+age*10+who+day+rain;");
-        row("without", new int[] {k.ofOath(0, 7), k.ofOath(0, 8)}, 5, 0);
-        row("risk", new int[] {k.of(0, 4), k.of(1, 4)}, 5200, 5211);
+        row("without", all(k.ofOath(0, 7), k.ofOath(0, 8)), 5, 0);
+        row("risk", all(k.of(0, 4), k.of(1, 4)), 5200, 5211);
     }
 
     // ---- deeds ----
@@ -567,13 +505,13 @@ final class PromiseTests {
         k.breaks(1);
         k.release(2);
         same(2, k.kneel(1));
-        row("wear", new int[] {k.ofOath(0, 5), k.ofOath(1, 5), k.ofOath(2, 5), k.ofOath(3, 5)}, 10, 10, 0, 0);
+        row("wear", all(k.ofOath(0, 5), k.ofOath(1, 5), k.ofOath(2, 5), k.ofOath(3, 5)), 10, 10, 0, 0);
         same(1, k.kneel(0));
         same(7, k.ofOath(3, 5));
         for (int i = 0; i < 8; i++) same(2, k.kneel(1));
         k.swear(0, 1, 1, 5);
         same(1, k.kneel(1));
-        row("wear", new int[] {k.ofOath(0, 5), k.ofOath(1, 5), k.ofOath(4, 5)}, 99, 99, 10);
+        row("wear", all(k.ofOath(0, 5), k.ofOath(1, 5), k.ofOath(4, 5)), 99, 99, 10);
         same(18, k.about(3));
     }
 
@@ -583,7 +521,7 @@ final class PromiseTests {
         k.swear(0, 1, 1, 1);
         rule("wears 50*marks who;");
         same(0, k.kneel(1));
-        row("both by two marks", new int[] {k.ofOath(0, 5), k.ofOath(1, 5)}, 99, 99);
+        row("both by two marks", all(k.ofOath(0, 5), k.ofOath(1, 5)), 99, 99);
     }
 
     void promise12Skates() {
@@ -597,29 +535,21 @@ final class PromiseTests {
         for (int[] w : wrong) same(-1, k.skate(w[0], w[1]));
         same(5, k.about(3));
         same(2, k.skate(1, 0));
-        row("wear", new int[] {k.ofOath(0, 5), k.ofOath(1, 5), k.ofOath(2, 5), k.ofOath(3, 5)}, 30, 0, 0, 30);
+        row("wear", all(k.ofOath(0, 5), k.ofOath(1, 5), k.ofOath(2, 5), k.ofOath(3, 5)), 30, 0, 0, 30);
         same(2, k.skate(1, 1));
         same(2, k.skate(1, 0));
         same(2, k.skate(1, 0));
         same(90, k.ofOath(0, 5));
         same(1, k.skate(1, 0));
-        row("wear", new int[] {k.ofOath(0, 5), k.ofOath(1, 5)}, 99, 30);
+        row("wear", all(k.ofOath(0, 5), k.ofOath(1, 5)), 99, 30);
         same(10, k.about(3));
-    }
-
-    private void threeInARing() {
-        people(4);
-        k.swear(0, 1, 1, 5);
-        k.swear(2, 0, 1, 4);
-        k.swear(1, 2, 1, 3);
-        k.swear(1, 0, 0, 9);
     }
 
     void promise13StruckOut() {
         threeInARing();
         same(3, k.strike(7));
-        row("sizes", new int[] {k.ofOath(0, 3), k.ofOath(1, 3), k.ofOath(2, 3), k.ofOath(3, 3)}, 2, 1, 0, 9);
-        row("states", new int[] {k.ofOath(0, 4), k.ofOath(1, 4), k.ofOath(2, 4), k.ofOath(3, 4)}, 0, 0, 2, 0);
+        row("sizes", all(k.ofOath(0, 3), k.ofOath(1, 3), k.ofOath(2, 3), k.ofOath(3, 3)), 2, 1, 0, 9);
+        row("states", all(k.ofOath(0, 4), k.ofOath(1, 4), k.ofOath(2, 4), k.ofOath(3, 4)), 0, 0, 2, 0);
         same(5, k.about(3));
         same(-1, k.strike(7));
         same(4, k.undo());
@@ -632,7 +562,7 @@ final class PromiseTests {
         k.swear(0, 1, 1, 9);
         k.swear(1, 0, 1, 9);
         same(9, k.strike(3));
-        row("states", new int[] {k.ofOath(0, 4), k.ofOath(1, 4), k.ofOath(0, 3), k.ofOath(1, 3)}, 2, 2, 0, 0);
+        row("states", all(k.ofOath(0, 4), k.ofOath(1, 4), k.ofOath(0, 3), k.ofOath(1, 3)), 2, 2, 0, 0);
     }
 
     void promise13WhatIsNoRing() {
@@ -670,21 +600,21 @@ final class PromiseTests {
         same(-1, k.strike(15));
         same(2, k.strike(3));
         same(4, k.strike(12));
-        row("sizes", new int[] {k.ofOath(0, 3), k.ofOath(1, 3), k.ofOath(2, 3), k.ofOath(3, 3)}, 0, 1, 0, 1);
+        row("sizes", all(k.ofOath(0, 3), k.ofOath(1, 3), k.ofOath(2, 3), k.ofOath(3, 3)), 0, 1, 0, 1);
     }
 
     void promise13SixInARing() {
         people(6);
         for (int i = 0; i < 6; i++) k.swear(i, (i + 1) % 6, 1, 9 - i);
         same(4, k.strike(63));
-        row("sizes", new int[] {k.ofOath(0, 3), k.ofOath(4, 3), k.ofOath(5, 3)}, 5, 1, 0);
+        row("sizes", all(k.ofOath(0, 3), k.ofOath(4, 3), k.ofOath(5, 3)), 5, 1, 0);
     }
 
     void promise14DaysPass() {
         for (int n : new int[] {0, -1, 61, Integer.MIN_VALUE, Integer.MAX_VALUE}) same(-1, k.day(n));
         same(7, k.day(1));
         same(1, k.day(1));
-        row("now", new int[] {k.is(0), k.is(1), k.is(2)}, 2, 1, 28089);
+        row("now", all(k.is(0), k.is(1), k.is(2)), 2, 1, 28089);
         same(2, k.about(3));
         k.undo();
         k.undo();
@@ -698,7 +628,7 @@ final class PromiseTests {
         same(rain, k.is(1));
         int x = k.is(2);
         same(-1, k.day(1));
-        row("no day more", new int[] {k.is(0), k.is(1), k.is(2)}, 9999, rain, x);
+        row("no day more", all(k.is(0), k.is(1), k.is(2)), 9999, rain, x);
         same(30, k.about(3));
     }
 
@@ -726,10 +656,10 @@ final class PromiseTests {
         same(-2, k.played(1));
         same(-2, k.played(Integer.MIN_VALUE));
         same(-1, k.played(0));
-        row("people", new int[] {k.about(0), k.of(0, 0), k.of(0, 1), k.of(1, 0), k.of(1, 1)}, 2, 1, 2, 9, 99);
+        row("people", all(k.about(0), k.of(0, 0), k.of(0, 1), k.of(1, 0), k.of(1, 1)), 2, 1, 2, 9, 99);
         row("0", oath(0), 0, 1, 1, 9, 1, 1, 0, 1, 0);
         row("1", oath(1), 1, 0, 0, 1, 2, 30, 0, 9, 0);
-        row("as by hand", new int[] {k.is(0), k.is(1), k.about(3), k.about(2)}, 2, 1, 9, -1);
+        row("as by hand", all(k.is(0), k.is(1), k.about(3), k.about(2)), 2, 1, 9, -1);
         row("aches", entry(0), 1, 1, 6);
     }
 
@@ -739,7 +669,7 @@ final class PromiseTests {
             KneeOaths o = new KneeOaths();
             Words.tell(o, "aches 1;" + t + "day 1;");
             same(1, o.played(0));
-            row(t, new int[] {o.is(0), o.about(3)}, 0, 0);
+            row(t, all(o.is(0), o.about(3)), 0, 0);
         }
         tell("one 1 age 1;one 1 age 1;swear 0 to 0 left 1;");
         tell("one 1 age 1;".repeat(5));
@@ -749,7 +679,7 @@ final class PromiseTests {
         same(4, k.played(1));
         same(6, k.about(0));
         same(4, k.played(2));
-        row("what was done stays", new int[] {k.is(3), k.is(0), k.ofOath(0, 4), k.about(3)}, 1, 0, 2, 2);
+        row("what was done stays", all(k.is(3), k.is(0), k.ofOath(0, 4), k.about(3)), 1, 0, 2, 2);
     }
 
     void promise15DaysThatCanPassDo() {
@@ -771,7 +701,7 @@ final class PromiseTests {
         same(137, k.is(2));
         same(0, k.about(3));
         same(0, k.years(0, 2));
-        row("x", new int[] {k.is(2), k.is(3), k.about(3)}, 28089, 0, 1);
+        row("x", all(k.is(2), k.is(3), k.about(3)), 28089, 0, 1);
         same(0, k.undo());
         same(137, k.is(2));
         k.years(9999, 1);
@@ -814,7 +744,7 @@ final class PromiseTests {
             int s = seedOf(kind, 7, kind);
             int drawn = ((s * 2 + 137) * 367 + 241) % 30449;
             same(kind - 4, k.years(s, 1));
-            row("a day", new int[] {k.is(1), k.is(2)}, drawn % 10, (drawn * 367 + 241) % 30449);
+            row("a day", all(k.is(1), k.is(2)), drawn % 10, (drawn * 367 + 241) % 30449);
         }
     }
 
@@ -822,13 +752,13 @@ final class PromiseTests {
         people(2);
         int x = ((seedOf(0, 7, 0) * 2 + 137) * 367 + 241) % 30449;
         same(0, k.years(seedOf(0, 7, 0), 1));
-        row("nothing but the draw", new int[] {k.is(3), k.is(2), k.about(3)}, 0, x, 1);
+        row("nothing but the draw", all(k.is(3), k.is(2), k.about(3)), 0, x, 1);
     }
 
     void promise16WhatThereAreNoneOfIsnt() {
         people(1);
         for (int kind = 0; kind < 3; kind++) same(0, k.years(seedOf(kind, 5, 0), 1));
-        row("steps all the same", new int[] {k.about(3), k.is(3)}, 3, 0);
+        row("steps all the same", all(k.about(3), k.is(3)), 3, 0);
     }
 
     void promise16SkatingInYears() {
@@ -870,7 +800,7 @@ final class PromiseTests {
         same(29, k.undo());
         same(0, k.ofOath(0, 4));
         for (int i = 28; i >= 13; i--) same(i, k.undo());
-        row("as ahead of the days", new int[] {k.is(0), k.is(1), k.is(2), k.is(3)}, 0, 0, 137, 14);
+        row("as ahead of the days", all(k.is(0), k.is(1), k.is(2), k.is(3)), 0, 0, 137, 14);
         for (int i = 12; i >= 0; i--) same(i, k.undo());
         same(1, k.is(3));
         same(-1, k.undo());
@@ -890,11 +820,11 @@ final class PromiseTests {
         k.years(77, 40);
         same(4, k.one(1, 1));
         same(11, k.undo());
-        row("years", new int[] {k.is(0), k.is(2), k.is(3)}, 2, 28089, 4);
+        row("years", all(k.is(0), k.is(2), k.is(3)), 2, 28089, 4);
         same(10, k.undo());
         same(1, k.ofOath(3, 4));
         same(9, k.undo());
-        row("struck out", new int[] {k.ofOath(0, 3), k.ofOath(1, 3), k.ofOath(2, 3), k.ofOath(2, 4)}, 5, 4, 3, 0);
+        row("struck out", all(k.ofOath(0, 3), k.ofOath(1, 3), k.ofOath(2, 3), k.ofOath(2, 4)), 5, 4, 3, 0);
         same(35, k.ofOath(3, 5));
         same(8, k.undo());
         same(5, k.ofOath(3, 5));
@@ -902,7 +832,7 @@ final class PromiseTests {
         same(0, k.ofOath(3, 5));
         same(1, k.book(-1, 0));
         same(6, k.undo());
-        row("the day", new int[] {k.is(0), k.is(1), k.is(2), k.book(-1, 0)}, 1, 7, 20071, 0);
+        row("the day", all(k.is(0), k.is(1), k.is(2), k.book(-1, 0)), 1, 7, 20071, 0);
         same(5, k.undo());
         same(4, k.undo());
         same(0, k.ofOath(3, 4));
@@ -941,14 +871,14 @@ final class PromiseTests {
         for (int i = 0; i < 6; i++) got[i] = k.of(3, i);
         row("3", got, 5, 23, 0, 0, 0, 0);
         for (int i = 0; i < 4; i++) k.skate(0, 0);
-        row("worn", new int[] {k.of(0, 2), k.of(0, 3), k.of(0, 4)}, 1, 0, 5);
+        row("worn", all(k.of(0, 2), k.of(0, 3), k.of(0, 4)), 1, 0, 5);
         for (int i = 0; i < 4; i++) k.skate(0, 1);
-        row("nets are of kept ones, worn or not", new int[] {k.of(0, 2), k.of(0, 5)}, 0, -1);
+        row("nets are of kept ones, worn or not", all(k.of(0, 2), k.of(0, 5)), 0, -1);
         k.breaks(1);
-        row("not of broken ones", new int[] {k.of(0, 5), k.of(2, 5)}, -5, 3);
+        row("not of broken ones", all(k.of(0, 5), k.of(2, 5)), -5, 3);
         k.undo();
         k.release(1);
-        row("nor of released ones", new int[] {k.of(0, 5), k.of(2, 5)}, -5, 3);
+        row("nor of released ones", all(k.of(0, 5), k.of(2, 5)), -5, 3);
     }
 
     void promise18AcheIsOfTheBrokenOnes() {
@@ -990,13 +920,13 @@ final class PromiseTests {
     }
 
     void promise20Is() {
-        row("new", new int[] {k.is(0), k.is(1), k.is(2), k.is(3)}, 0, 0, 137, 0);
+        row("new", all(k.is(0), k.is(1), k.is(2), k.is(3)), 0, 0, 137, 0);
         for (int what : new int[] {-1, 4, Integer.MAX_VALUE, Integer.MIN_VALUE}) same(-2, k.is(what));
         people(2);
         k.swear(0, 1, 0, 1);
         k.release(0);
         k.day(2);
-        row("then", new int[] {k.is(0), k.is(1), k.is(2), k.is(3)}, 2, 1, 28089, 1);
+        row("then", all(k.is(0), k.is(1), k.is(2), k.is(3)), 2, 1, 28089, 1);
     }
 
     void promise21TheBookHasTheLatestThirty() {
@@ -1043,7 +973,7 @@ final class PromiseTests {
         int far = k.foretold(60, -1), much = k.foretold(60, 1);
         for (int n : new int[] {0, 61, -1, Integer.MAX_VALUE}) same(-1, k.foretold(n, 1));
         for (int one : new int[] {2, -2, Integer.MIN_VALUE}) same(-1, k.foretold(1, one));
-        row("nothing is done", new int[] {k.is(0), k.is(1), k.is(2), k.book(-1, 0), k.about(3)}, 0, 0, 137, 0, 2);
+        row("nothing is done", all(k.is(0), k.is(1), k.is(2), k.book(-1, 0), k.about(3)), 0, 0, 137, 0, 2);
         int sum = 0;
         for (int i = 0; i < 60; i++) {
             sum += k.of(1, 3);
@@ -1192,12 +1122,12 @@ final class PromiseTests {
     void promise26Breaches() {
         same(-1, k.breaches(0, 0));
         fourOnOne();
-        row("all sets", new int[] {k.breaches(0, 0), k.breaches(0, 1), k.breaches(0, 2)}, 16, 0, 0);
+        row("all sets", all(k.breaches(0, 0), k.breaches(0, 1), k.breaches(0, 2)), 16, 0, 0);
         k.breaks(0);
         same(16, k.breaches(0, 0));
         // at RAIN 5 they ache 1, 2, 3, 4
         k.felt(0, 5, 5);
-        row("1 and 4, or 2 and 3", new int[] {k.breaches(0, 0), k.breaches(0, 1), k.breaches(0, 2)}, 2, 0, 0);
+        row("1 and 4, or 2 and 3", all(k.breaches(0, 0), k.breaches(0, 1), k.breaches(0, 2)), 2, 0, 0);
         // at RAIN 2 they ache 0, 0, 1, 1
         k.felt(0, 2, 1);
         same(2, k.breaches(0, 0));
@@ -1213,13 +1143,13 @@ final class PromiseTests {
         k.felt(0, 4, 3);
         same(2, k.breaches(0, 0));
         k.felt(0, 1, 1);
-        row("none", new int[] {k.breaches(0, 0), k.breaches(0, 1), k.breaches(0, 2)}, 0, 29, 29);
+        row("none", all(k.breaches(0, 0), k.breaches(0, 1), k.breaches(0, 2)), 0, 29, 29);
         k.felt(-1, 0, 0);
         k.felt(0, 5, 9);
-        row("1 is kept", new int[] {k.breaches(0, 0), k.breaches(0, 1), k.breaches(0, 2)}, 1, 28, 1);
-        row("others", new int[] {k.breaches(0, -1), k.breaches(0, 3), k.breaches(3, 0), k.breaches(-1, 0)}, -1, -1, -1, -1);
+        row("1 is kept", all(k.breaches(0, 0), k.breaches(0, 1), k.breaches(0, 2)), 1, 28, 1);
+        row("others", all(k.breaches(0, -1), k.breaches(0, 3), k.breaches(3, 0), k.breaches(-1, 0)), -1, -1, -1, -1);
         k.release(4);
-        row("of its legible ones", new int[] {k.breaches(0, 0), k.breaches(0, 1), k.breaches(0, 2)}, 0, 13, 13);
+        row("of its legible ones", all(k.breaches(0, 0), k.breaches(0, 1), k.breaches(0, 2)), 0, 13, 13);
     }
 
     void promise26FourteenMaybeBroken() {
@@ -1250,25 +1180,25 @@ final class PromiseTests {
     void promise27Odds() {
         same(-1, k.odds(0, false));
         fourOnOne();
-        row("half", new int[] {k.odds(0, false), k.odds(0, true)}, 1, 2);
+        row("half", all(k.odds(0, false), k.odds(0, true)), 1, 2);
         // at RAIN 5 they ache 1, 2, 3, 4: {4}, {1, 3}
         k.felt(0, 5, 4);
-        row("half", new int[] {k.odds(4, false), k.odds(4, true), k.odds(0, false), k.odds(0, true)}, 1, 2, 1, 2);
-        row("never", new int[] {k.odds(2, false), k.odds(2, true)}, 0, 1);
+        row("half", all(k.odds(4, false), k.odds(4, true), k.odds(0, false), k.odds(0, true)), 1, 2, 1, 2);
+        row("never", all(k.odds(2, false), k.odds(2, true)), 0, 1);
         k.felt(-1, 0, 0);
         // at RAIN 2 they ache 0, 0, 1, 1: {3} or {4}, with any of 0, 2: 8; at RAIN 3 0, 1, 1, 2
         k.felt(0, 3, 2);
         // {4}, {2, 3}, each with or without 0
-        row("half", new int[] {k.odds(0, false), k.odds(0, true), k.odds(2, false), k.odds(2, true)}, 1, 2, 1, 2);
+        row("half", all(k.odds(0, false), k.odds(0, true), k.odds(2, false), k.odds(2, true)), 1, 2, 1, 2);
         k.felt(-1, 0, 0);
         // at RAIN 4 they ache 0, 1, 2, 3: {4}, {2, 3}, with or without 0; 4: {2, 4}
         k.felt(0, 5, 7);
         // {3, 4}, {1, 2, 4} by aches: oath 4 is in both
-        row("sure", new int[] {k.odds(4, false), k.odds(4, true)}, 1, 1);
+        row("sure", all(k.odds(4, false), k.odds(4, true)), 1, 1);
         k.felt(0, 5, 6);
-        row("no sets", new int[] {k.odds(4, false), k.odds(4, true)}, 0, 1);
-        row("one that felt nothing", new int[] {k.odds(1, false), k.odds(1, true)}, 1, 2);
-        row("others", new int[] {k.odds(5, false), k.odds(-1, true), k.odds(Integer.MAX_VALUE, true)}, -1, -1, -1);
+        row("no sets", all(k.odds(4, false), k.odds(4, true)), 0, 1);
+        row("one that felt nothing", all(k.odds(1, false), k.odds(1, true)), 1, 2);
+        row("others", all(k.odds(5, false), k.odds(-1, true), k.odds(Integer.MAX_VALUE, true)), -1, -1, -1);
         k.release(0);
         same(-1, k.odds(0, false));
         for (int i = 0; i < 4; i++) k.skate(0, 1);
@@ -1281,10 +1211,10 @@ final class PromiseTests {
         k.swear(0, 1, 0, 1);
         rule("aches size;");
         k.felt(1, 0, 27);
-        row("3 of 4", new int[] {k.odds(0, false), k.odds(0, true), k.odds(4, false), k.odds(4, true)}, 3, 4, 0, 1);
+        row("3 of 4", all(k.odds(0, false), k.odds(0, true), k.odds(4, false), k.odds(4, true)), 3, 4, 0, 1);
         k.felt(-1, 0, 0);
         k.felt(1, 0, 9);
-        row("1 of 4", new int[] {k.odds(3, false), k.odds(3, true)}, 1, 4);
+        row("1 of 4", all(k.odds(3, false), k.odds(3, true)), 1, 4);
     }
 
     void promise28NextAsked() {
@@ -1413,7 +1343,7 @@ final class PromiseTests {
     void promise31Forged() {
         same(-1000, k.forged(0, 0, 0));
         fourOnOne();
-        row("left and right", new int[] {k.forged(0, 0, 5), k.forged(0, 1, 0), k.forged(2, 0, 99), k.forged(1, 0, 1)}, 3, -2, 99, 0);
+        row("left and right", all(k.forged(0, 0, 5), k.forged(0, 1, 0), k.forged(2, 0, 99), k.forged(1, 0, 1)), 3, -2, 99, 0);
         int[][] wrong = {{3, 0, 0}, {-1, 0, 0}, {0, 2, 0}, {0, -1, 0}, {0, 0, -1}, {0, 0, 100}};
         for (int[] w : wrong) same(-1000, k.forged(w[0], w[1], w[2]));
         k.breaks(0);
@@ -1439,38 +1369,38 @@ final class PromiseTests {
     }
 
     void promise33InTime() {
-        row("none", new int[] {k.inTime(0), k.inTime(1), k.inTime(2)}, 0, 0, 0);
+        row("none", all(k.inTime(0), k.inTime(1), k.inTime(2)), 0, 0, 0);
         k.word(5, 4);
-        row("too late", new int[] {k.inTime(0), k.inTime(1), k.inTime(2)}, 0, 0, 0);
+        row("too late", all(k.inTime(0), k.inTime(1), k.inTime(2)), 0, 0, 0);
         k.word(4, 9);
         k.word(5, 9);
         k.word(9, 9);
         k.word(3, 3);
-        row("two", new int[] {k.inTime(0), k.inTime(1), k.inTime(2)}, 2, 6, 9);
+        row("two", all(k.inTime(0), k.inTime(1), k.inTime(2)), 2, 6, 9);
         k.word(1, 13);
-        row("then one more", new int[] {k.inTime(0), k.inTime(1), k.inTime(2)}, 3, 2 + 4 + 32, 10);
+        row("then one more", all(k.inTime(0), k.inTime(1), k.inTime(2)), 3, 2 + 4 + 32, 10);
         k.word(3, 9);
-        row("one more can take the place, but is higher", new int[] {k.inTime(0), k.inTime(1), k.inTime(2)}, 3, 2 + 4 + 32, 10);
+        row("one more can take the place, but is higher", all(k.inTime(0), k.inTime(1), k.inTime(2)), 3, 2 + 4 + 32, 10);
         k.word(2, 9);
-        row("4, 3, 1, 2", new int[] {k.inTime(0), k.inTime(1), k.inTime(2)}, 4, 2 + 16 + 32 + 128, 10);
-        row("others", new int[] {k.inTime(-1), k.inTime(3), k.inTime(Integer.MAX_VALUE)}, -1, -1, -1);
+        row("4, 3, 1, 2", all(k.inTime(0), k.inTime(1), k.inTime(2)), 4, 2 + 16 + 32 + 128, 10);
+        row("others", all(k.inTime(-1), k.inTime(3), k.inTime(Integer.MAX_VALUE)), -1, -1, -1);
     }
 
     void promise33OneInTime() {
         k.word(99, 99);
-        row("just in time", new int[] {k.inTime(0), k.inTime(1), k.inTime(2)}, 1, 1, 99);
+        row("just in time", all(k.inTime(0), k.inTime(1), k.inTime(2)), 1, 1, 99);
         k.word(99, 98);
-        row("the other can't be", new int[] {k.inTime(0), k.inTime(1), k.inTime(2)}, 1, 1, 99);
+        row("the other can't be", all(k.inTime(0), k.inTime(1), k.inTime(2)), 1, 1, 99);
         k.word(1, 1);
-        row("of two sets of one the lowest", new int[] {k.inTime(0), k.inTime(1), k.inTime(2)}, 1, 1, 99);
+        row("of two sets of one the lowest", all(k.inTime(0), k.inTime(1), k.inTime(2)), 1, 1, 99);
     }
 
     void promise33AllEightInTime() {
         for (int i = 8; i >= 1; i--) k.word(10, 10 * i);
-        row("all", new int[] {k.inTime(0), k.inTime(1), k.inTime(2)}, 8, 255, 80);
+        row("all", all(k.inTime(0), k.inTime(1), k.inTime(2)), 8, 255, 80);
         k.word(-1, 0);
         for (int i = 0; i < 8; i++) k.word(10, 79);
-        row("the lowest", new int[] {k.inTime(0), k.inTime(1), k.inTime(2)}, 7, 127, 70);
+        row("the lowest", all(k.inTime(0), k.inTime(1), k.inTime(2)), 7, 127, 70);
     }
 
     void promise34Whom() {
@@ -1479,12 +1409,12 @@ final class PromiseTests {
         same(-1, k.whom(0));
         k.one(5, 0);
         k.one(5, 0);
-        row("like ones", new int[] {k.whom(0), k.whom(1), k.whom(2)}, 1, 0, 0);
+        row("like ones", all(k.whom(0), k.whom(1), k.whom(2)), 1, 0, 0);
         k.swear(1, 0, 0, 1);
-        row("with a mark", new int[] {k.whom(0), k.whom(1), k.whom(2)}, 1, 2, 1);
-        row("others", new int[] {k.whom(-1), k.whom(3), k.whom(Integer.MIN_VALUE)}, -1, -1, -1);
+        row("with a mark", all(k.whom(0), k.whom(1), k.whom(2)), 1, 2, 1);
+        row("others", all(k.whom(-1), k.whom(3), k.whom(Integer.MIN_VALUE)), -1, -1, -1);
         rule("risk 10-who;");
-        row("by the text", new int[] {k.whom(0), k.whom(1), k.whom(2)}, 2, 2, 1);
+        row("by the text", all(k.whom(0), k.whom(1), k.whom(2)), 2, 2, 1);
     }
 
     void promise35Rings() {
@@ -1582,16 +1512,16 @@ final class PromiseTests {
         k.swear(1, 0, 0, 1);
         k.swear(2, 1, 0, 1);
         k.swear(2, 3, 1, 1);
-        row("on and by", new int[] {k.known(0), k.known(1), k.known(2), k.known(3)}, 3, 7, 12, 8);
+        row("on and by", all(k.known(0), k.known(1), k.known(2), k.known(3)), 3, 7, 12, 8);
         k.saw(0, 1);
         k.saw(1, 3);
-        row("seen", new int[] {k.known(0), k.known(1), k.known(2), k.known(3)}, 7, 15, 12, 8);
-        row("others", new int[] {k.known(-1), k.known(4), k.known(Integer.MAX_VALUE)}, -1, -1, -1);
+        row("seen", all(k.known(0), k.known(1), k.known(2), k.known(3)), 7, 15, 12, 8);
+        row("others", all(k.known(-1), k.known(4), k.known(Integer.MAX_VALUE)), -1, -1, -1);
         k.breaks(3);
         k.release(0);
-        row("legible", new int[] {k.known(0), k.known(1), k.known(2), k.known(3)}, 6, 14, 12, 8);
+        row("legible", all(k.known(0), k.known(1), k.known(2), k.known(3)), 6, 14, 12, 8);
         k.saw(-1, 0);
-        row("seen no more", new int[] {k.known(0), k.known(1)}, 2, 6);
+        row("seen no more", all(k.known(0), k.known(1)), 2, 6);
     }
 
     void promise39Together() {
@@ -1629,16 +1559,16 @@ final class PromiseTests {
             same(-100000, k.copy(w[0], w[1], w[2], true));
         }
         // oath 0 fades behind 10 days, oath 1 never
-        row("late", new int[] {k.copy(0, 2, 101, false), k.copy(0, 2, 101, true)}, 60, -19);
-        row("like ones", new int[] {k.copy(0, 2, 102, false), k.copy(0, 2, 102, true)}, 9, -18);
-        row("in time", new int[] {k.copy(0, 99, 9999, false), k.copy(0, 99, 9999, true)}, 9, -891);
-        row("at no cost", new int[] {k.copy(0, 1, 0, false), k.copy(0, 1, 0, true)}, 60, -60);
-        row("at no gain", new int[] {k.copy(0, 0, 9999, false), k.copy(0, 0, 9999, true)}, 0, 0);
-        row("never", new int[] {k.copy(1, 99, 9999, false), k.copy(1, 99, 9999, true)}, 60, -5940);
+        row("late", all(k.copy(0, 2, 101, false), k.copy(0, 2, 101, true)), 60, -19);
+        row("like ones", all(k.copy(0, 2, 102, false), k.copy(0, 2, 102, true)), 9, -18);
+        row("in time", all(k.copy(0, 99, 9999, false), k.copy(0, 99, 9999, true)), 9, -891);
+        row("at no cost", all(k.copy(0, 1, 0, false), k.copy(0, 1, 0, true)), 60, -60);
+        row("at no gain", all(k.copy(0, 0, 9999, false), k.copy(0, 0, 9999, true)), 0, 0);
+        row("never", all(k.copy(1, 99, 9999, false), k.copy(1, 99, 9999, true)), 60, -5940);
         k.breaks(0);
         for (int i = 0; i < 4; i++) k.skate(0, 0);
-        row("too late", new int[] {k.copy(0, 1, 9999, false), k.copy(0, 1, 9999, true)}, 60, 9939);
-        row("too late", new int[] {k.copy(0, 0, 9999, false), k.copy(0, 0, 9999, true)}, 0, 9999);
+        row("too late", all(k.copy(0, 1, 9999, false), k.copy(0, 1, 9999, true)), 60, 9939);
+        row("too late", all(k.copy(0, 0, 9999, false), k.copy(0, 0, 9999, true)), 0, 9999);
         k.release(0);
         same(-100000, k.copy(0, 0, 0, true));
         same(0, k.is(0));
@@ -1741,10 +1671,10 @@ final class PromiseTests {
         k.breaks(1);
         rule("aches who*10;");
         k.day(3);
-        row("ached", new int[] {k.ached(-1), k.ached(0), k.ached(1), k.ached(2)}, 90, 0, 30, 60);
-        row("others", new int[] {k.ached(3), k.ached(-2), k.ached(Integer.MAX_VALUE)}, -2, -2, -2);
+        row("ached", all(k.ached(-1), k.ached(0), k.ached(1), k.ached(2)), 90, 0, 30, 60);
+        row("others", all(k.ached(3), k.ached(-2), k.ached(Integer.MAX_VALUE)), -2, -2, -2);
         k.day(20);
-        row("of thirty", new int[] {k.ached(-1), k.ached(1), k.ached(2)}, 450, 150, 300);
+        row("of thirty", all(k.ached(-1), k.ached(1), k.ached(2)), 450, 150, 300);
         k.undo();
         same(450, k.ached(-1));
     }
@@ -1828,43 +1758,12 @@ final class PromiseTests {
         for (int i = 0; i < 2; i++) {
             same(2, k.back());
             row("about", aboutAll(), 3, 1, 0, 5, 1, 1, 2, 1, 1, 20);
-            row("is", new int[] {k.is(0), k.is(1), k.is(2), k.is(3), k.book(-1, 0)}, 2, 1, 28089, 2, 1);
+            row("is", all(k.is(0), k.is(1), k.is(2), k.is(3), k.book(-1, 0)), 2, 1, 28089, 2, 1);
             row("0", oath(0), 0, 1, 0, 9, 1, 0, 0, 8, 0);
             row("1", oath(1), 1, 0, 1, 2, 0, 0, 0, 8, 0);
-            row("steps too", new int[] {k.undo(), k.undo(), k.undo(), k.undo(), k.undo(), k.undo()}, 4, 3, 2, 1, 0, -1);
+            row("steps too", all(k.undo(), k.undo(), k.undo(), k.undo(), k.undo(), k.undo()), 4, 3, 2, 1, 0, -1);
         }
         same(1, tell("wears 5;"));
-    }
-
-    void promise48WhatWasToldIsSoAgain() {
-        people(3);
-        k.swear(0, 1, 0, 9);
-        k.swear(0, 2, 0, 9);
-        k.swear(1, 2, 0, 9);
-        k.day(1);
-        k.felt(1, 9, 8);
-        k.clash(0, 1);
-        k.word(3, 3);
-        k.saw(1, 2);
-        k.worn(0, 5);
-        tell("wears 6;");
-        k.image();
-        int[] due = {k.breaches(1, 0), k.breaches(1, 1), k.leastReleased(), k.inTime(2), k.known(1), k.whose()};
-        row("told", due, 1, 1, 1, 3, 7, 0);
-        k.felt(-1, 0, 0);
-        k.clash(-1, 0);
-        k.word(-1, 0);
-        k.saw(-1, 0);
-        k.worn(-1, 0);
-        k.felt(1, 9, 0);
-        k.clash(1, 2);
-        k.word(2, 2);
-        k.saw(1, 0);
-        k.worn(0, 6);
-        row("told anew", new int[] {k.breaches(1, 0), k.breaches(1, 1), k.leastReleased(), k.inTime(2), k.known(1), k.whose()},
-            1, 0, 2, 2, 5, 1);
-        k.back();
-        row("as it was", new int[] {k.breaches(1, 0), k.breaches(1, 1), k.leastReleased(), k.inTime(2), k.known(1), k.whose()}, due);
     }
 
     void promise48PeopleAndTextsToldSinceAreGone() {
@@ -1881,7 +1780,7 @@ final class PromiseTests {
         same(1, tell("wears 33;"));
         k.swear(0, 1, 0, 1);
         yes(k.by(1));
-        row("the new ones", new int[] {k.of(1, 0), k.of(1, 1), k.ofOath(0, 7)}, 3, 33, 33);
+        row("the new ones", all(k.of(1, 0), k.of(1, 1), k.ofOath(0, 7)), 3, 33, 33);
         yes(k.by(0));
         same(11, k.ofOath(0, 7));
     }
