@@ -1,12 +1,11 @@
-import com.sun.source.tree.AssignmentTree;
 import com.sun.source.tree.BinaryTree;
 import com.sun.source.tree.ClassTree;
 import com.sun.source.tree.CompilationUnitTree;
 import com.sun.source.tree.ExpressionTree;
-import com.sun.source.tree.MemberSelectTree;
+import com.sun.source.tree.ForLoopTree;
+import com.sun.source.tree.ImportTree;
 import com.sun.source.tree.MethodInvocationTree;
 import com.sun.source.tree.MethodTree;
-import com.sun.source.tree.NewArrayTree;
 import com.sun.source.tree.NewClassTree;
 import com.sun.source.tree.Tree;
 import com.sun.source.tree.VariableTree;
@@ -17,7 +16,6 @@ import com.sun.source.util.Trees;
 import java.nio.file.Files;
 import java.nio.file.Path;
 import java.util.ArrayList;
-import java.util.Arrays;
 import java.util.EnumSet;
 import java.util.HashMap;
 import java.util.HashSet;
@@ -30,7 +28,6 @@ import java.util.TreeSet;
 import java.util.regex.Matcher;
 import java.util.regex.Pattern;
 import javax.lang.model.element.Element;
-import javax.lang.model.element.ElementKind;
 import javax.lang.model.element.Modifier;
 import javax.lang.model.element.TypeElement;
 import javax.tools.JavaCompiler;
@@ -43,13 +40,23 @@ final class LanguageTests {
     private static final Path DOCUMENT = Path.of("../shared/DOC.md");
 
     private static final Set<Tree.Kind> FORBIDDEN = EnumSet.of(Tree.Kind.THROW, Tree.Kind.TRY, Tree.Kind.CATCH,
-        Tree.Kind.SYNCHRONIZED, Tree.Kind.ASSERT, Tree.Kind.LAMBDA_EXPRESSION, Tree.Kind.MEMBER_REFERENCE,
-        Tree.Kind.IMPORT, Tree.Kind.PACKAGE, Tree.Kind.ANNOTATION, Tree.Kind.DO_WHILE_LOOP);
+        Tree.Kind.SYNCHRONIZED, Tree.Kind.ASSERT, Tree.Kind.LAMBDA_EXPRESSION, Tree.Kind.MEMBER_REFERENCE, Tree.Kind.PACKAGE);
 
-    /** Of the allowed library only what the class needs. */
-    private static final Set<String> LIBRARY = new HashSet<>(Arrays.asList("java.lang.String.length",
-        "java.lang.String.charAt", "java.lang.String.indexOf", "java.lang.System.arraycopy", "java.lang.Math.max",
-        "java.lang.Math.min", "java.lang.Math.abs", "java.lang.Integer.bitCount", "java.lang.Object.<init>"));
+    /** Of rule 4; the static functions of Integer, Long and Math are looked at by themselves. */
+    private static final Map<String, Set<String>> LIBRARY = Map.of(
+        "java.lang.Object", Set.of("<init>"),
+        "java.lang.String", Set.of("length", "charAt", "isEmpty", "equals", "indexOf", "substring", "toCharArray", "<init>"),
+        "java.lang.StringBuilder", Set.of("<init>", "append", "charAt", "setCharAt", "setLength", "deleteCharAt", "reverse", "length", "toString"),
+        "java.util.ArrayList", Set.of("<init>", "add", "get", "set", "remove", "size", "isEmpty", "clear", "iterator"),
+        "java.util.List", Set.of("of", "add", "get", "set", "remove", "size", "isEmpty", "clear", "iterator"),
+        "java.lang.System", Set.of("arraycopy"),
+        "java.util.Arrays", Set.of("copyOf", "copyOfRange", "fill"));
+
+    private static final Set<String> NUMBER_CLASSES = Set.of("java.lang.Integer", "java.lang.Long", "java.lang.Math");
+
+    private static final Set<String> IMPORTS = Set.of("java.util.ArrayList", "java.util.List", "java.util.Arrays", "java.util.Iterator");
+
+    private static final Set<String> CONSTANTS = Set.of("int", "long", "boolean", "char", "String", "int[]", "long[]", "char[]", "byte[]");
 
     private final Map<Element, MethodTree> methods = new LinkedHashMap<>();
     private final Map<Element, Set<Element>> calls = new HashMap<>();
@@ -137,19 +144,13 @@ final class LanguageTests {
         public Void visitNewClass(NewClassTree tree, Void nothing) {
             called(trees.getElement(getCurrentPath()));
             if (tree.getClassBody() != null) wrong(tree, "a class without a name");
-            made(tree);
             return super.visitNewClass(tree, nothing);
         }
 
         @Override
-        public Void visitNewArray(NewArrayTree tree, Void nothing) {
-            made(tree);
-            return super.visitNewArray(tree, nothing);
-        }
-
-        /** Of the room for a run nothing is taken once an object is made. */
-        private void made(Tree tree) {
-            if (inside != null && inside.getKind() != ElementKind.CONSTRUCTOR) wrong(tree, "an object made outside a constructor");
+        public Void visitImport(ImportTree tree, Void nothing) {
+            if (!IMPORTS.contains(tree.getQualifiedIdentifier().toString())) wrong(tree, tree.toString());
+            return super.visitImport(tree, nothing);
         }
 
         @Override
@@ -159,10 +160,20 @@ final class LanguageTests {
             return super.visitBinary(tree, nothing);
         }
 
+        private void loop(Tree tree, ExpressionTree condition) {
+            if (condition == null || condition.toString().matches("\\(?true\\)?")) wrong(tree, "a loop whose end isn't seen");
+        }
+
         @Override
         public Void visitWhileLoop(WhileLoopTree tree, Void nothing) {
-            if (!tree.getCondition().toString().startsWith("(to < length")) wrong(tree, "a loop whose end isn't seen");
+            loop(tree, tree.getCondition());
             return super.visitWhileLoop(tree, nothing);
+        }
+
+        @Override
+        public Void visitForLoop(ForLoopTree tree, Void nothing) {
+            loop(tree, tree.getCondition());
+            return super.visitForLoop(tree, nothing);
         }
     }
 
@@ -204,15 +215,21 @@ final class LanguageTests {
     }
 
     private void nested() {
-        Set<Modifier> due = EnumSet.of(Modifier.PRIVATE, Modifier.STATIC, Modifier.FINAL);
         classes.forEach((tree, e) -> {
             boolean outer = e.getSimpleName().contentEquals("KneeOaths");
-            Suite.same(e.toString(), outer ? EnumSet.of(Modifier.PUBLIC, Modifier.FINAL) : due, new HashSet<>(e.getModifiers()));
+            Set<Modifier> has = e.getModifiers();
+            if (outer) Suite.same("KneeOaths", EnumSet.of(Modifier.PUBLIC, Modifier.FINAL), new HashSet<>(has));
+            boolean hidden = !has.contains(Modifier.PUBLIC) && !has.contains(Modifier.PROTECTED) && has.contains(Modifier.STATIC);
+            if (!outer) Suite.same(e + " is hidden and static", true, hidden);
         });
     }
 
+    private static boolean allowed(String owner, String name) {
+        return LIBRARY.getOrDefault(owner, Set.of()).contains(name) || NUMBER_CLASSES.contains(owner) && !name.endsWith("Exact");
+    }
+
     private void libraryCalls() {
-        library.removeAll(LIBRARY);
+        library.removeIf(call -> allowed(call.substring(0, call.lastIndexOf('.')), call.substring(call.lastIndexOf('.') + 1)));
         Suite.same("library", Set.of(), library);
     }
 
@@ -222,7 +239,7 @@ final class LanguageTests {
                 if (member.getKind() == Tree.Kind.BLOCK) throw new AssertionError("an initialiser block");
                 if (!(member instanceof VariableTree v) || !v.getModifiers().getFlags().contains(Modifier.STATIC)) continue;
                 String type = v.getType().toString();
-                boolean fine = v.getModifiers().getFlags().contains(Modifier.FINAL) && (type.equals("int") || type.equals("String"));
+                boolean fine = v.getModifiers().getFlags().contains(Modifier.FINAL) && CONSTANTS.contains(type);
                 if (!fine) throw new AssertionError(v.toString());
             }
         }
@@ -258,7 +275,7 @@ final class LanguageTests {
         for (Element e : methods.keySet()) {
             if (!reaches(e, e, new HashSet<>())) continue;
             boolean carries = false;
-            for (VariableTree p : methods.get(e).getParameters()) carries |= p.getName().contentEquals("open") || p.getName().contentEquals("depth");
+            for (VariableTree p : methods.get(e).getParameters()) carries |= p.getType().toString().equals("int");
             if (!carries || !e.getModifiers().contains(Modifier.PRIVATE)) throw new AssertionError(e.toString());
         }
     }

@@ -21,6 +21,7 @@ final class PlainText {
     }
 
     static final class Fault extends Exception {
+        private static final long serialVersionUID = 1;
         final int kind, place;
 
         Fault(int kind, int place) {
