@@ -95,7 +95,7 @@ final class TextEdgeTests extends KneeTest {
         fine("wears if 1>=1" + CHOICE);
         fault(1, 12, "wears if 1< =1" + CHOICE);
         fault(1, 12, "wears if 1> =1" + CHOICE);
-        fault(1, 12, "wears if 1<==1" + CHOICE.substring(0, 9));
+        fault(1, 12, "wears if 1<==1" + CHOICE);
         fault(1, 11, "wears if 1=<1" + CHOICE);
         fault(1, 11, "wears if 1#=1" + CHOICE);
         fault(1, 11, "wears if 1<>1" + CHOICE);
