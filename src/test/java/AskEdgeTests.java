@@ -165,6 +165,7 @@ final class AskEdgeTests extends KneeTest {
     void fourteenMayBeBrokenBySixFeelings() {
         sizesOnOne(1, 1, 1, 1, 1, 1, 1, 1, 1, 1, 1, 1, 1, 9);
         row("all sets", breaches(1), 16384, 0, 0);
+        row("asked", all(k.nextAsked(1), k.odds(13, false), k.odds(13, true)), 0, 1, 2);
         for (int i = 0; i < 5; i++) k.felt(1, i, 13);
         row("all of SIZE 1, or four of them and the last", breaches(1), 1 + 715, 0, 0);
         k.felt(1, 9, 22);

@@ -45,6 +45,8 @@ final class TextEdgeTests extends KneeTest {
         String text = "wears 1" + "+1".repeat(146) + ";";
         same(300, text.length());
         same(0, tell(text));
+        fault(1, 299, " ".repeat(299) + "?");
+        fault(1, 299, "day 1;" + "\n".repeat(293) + ";");
         for (int i = 0; i < 15; i++) k.feed(0x20202020, 0x20202020, 0x20202020, 0x20202020, 0x20202020);
         refused(-1, () -> k.feed(0, 0, 0, 0, 0));
         same(1, k.text());
